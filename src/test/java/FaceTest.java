@@ -13,6 +13,11 @@ public final class FaceTest {
 
     public static void main(String[] args) {
         Due due = new Due();
+        due.sentence("The public face (promises 1 to 11)", "public final class BlockRows", FaceTest::face);
+        due.end();
+    }
+
+    private static void face(Due due) {
         Class<?> c = BlockRows.class;
         due.same("public and final", c.getModifiers(), Modifier.PUBLIC | Modifier.FINAL);
         Set<String> names = methods(due, c);
@@ -28,7 +33,6 @@ public final class FaceTest {
             due.same(inside + " is static", Modifier.isStatic(inside.getModifiers()) ? 1 : 0, 1);
             due.same(inside + " is not public", Modifier.isPublic(inside.getModifiers()) ? 1 : 0, 0);
         }
-        due.end();
     }
 
     private static Set<String> methods(Due due, Class<?> c) {
